@@ -1022,21 +1022,21 @@ public final class FieldsTold {
         }
 
         int leadByTurns(int mover, int other, int n) {
-            return leadLeft(mover, other, Math.min(n, MOST_TURNS));
+            return bestLead(this, mover, other, n);
         }
 
         // Seen by the one who moves next, so that both want the most.
-        private int leadLeft(int mover, int other, int left) {
+        private static int bestLead(Thought in, int mover, int other, int left) {
             if (left <= 0 || left > MOST_TURNS) {
-                return leadNow(mover, other);
+                return in.leadNow(mover, other);
             }
-            Field spare = spares[left - 1];
+            Field spare = in.spares[left - 1];
             int best = LOW;
-            for (int i = 0; i < FIELDS_IN_TURNS && i < land.fields; i++) {
-                Field of = land.road[i];
+            for (int i = 0; i < FIELDS_IN_TURNS && i < in.land.fields; i++) {
+                Field of = in.land.road[i];
                 spare.copyFrom(of);
                 of.listen(mover);
-                best = Math.max(best, -leadLeft(other, mover, left - 1));
+                best = Math.max(best, -bestLead(in, other, mover, left - 1));
                 of.copyFrom(spare);
             }
             return best;
@@ -1144,11 +1144,11 @@ public final class FieldsTold {
             kind = of.kind;
             m = of.m;
             n = of.number;
-            return call(kind, act, x, 0);
+            return body(this, kind, act, x, 0);
         }
 
         /** Works out the body of an act that stands nearest, from a kind on upward. */
-        private int call(int from, int act, int x, int depth) {
+        private static int body(Voice in, int from, int act, int x, int depth) {
             if (!isWithin(from, 0, KINDS - 1) || !isWithin(act, 0, ACTS - 1) || depth > MOST_DEPTH) {
                 return 0;
             }
@@ -1156,22 +1156,23 @@ public final class FieldsTold {
             for (int up = 0; up < KINDS && at > 0 && BODIES[ACTS * at + act] == 0; up++) {
                 at = KIND_ABOVE[at];
             }
-            int body = BODIES[ACTS * at + act];
-            begin(body);
+            int begun = BODIES[ACTS * at + act];
+            in.begin(begun);
             int above = KIND_ABOVE[at];
+            int own = in.kind;
             int d = depth + 1;
-            switch (body) {
-                case 10: return x + n;
-                case 11: return call(kind, HEARS, x, d) * 2;
-                case 12: return x - m;
-                case 13: return call(kind, SAYS, x, d) ^ call(kind, FEARS, x, d);
-                case 20: return call(above, HEARS, x, d) * 3;
-                case 30: return -call(above, FEARS, x, d);
-                case 40: return call(above, SAYS, x, d) - call(kind, FEARS, 1, d);
-                case 50: return call(above, TELLS, x, d) - call(kind, HEARS, 2, d);
-                case 60: return call(above, FEARS, x, d) ^ n;
-                case 61: return call(kind, SAYS, x, d) - call(above, TELLS, x, d);
-                case 70: return call(above, SAYS, x + 1, d);
+            switch (begun) {
+                case 10: return x + in.n;
+                case 11: return body(in, own, HEARS, x, d) * 2;
+                case 12: return x - in.m;
+                case 13: return body(in, own, SAYS, x, d) ^ body(in, own, FEARS, x, d);
+                case 20: return body(in, above, HEARS, x, d) * 3;
+                case 30: return -body(in, above, FEARS, x, d);
+                case 40: return body(in, above, SAYS, x, d) - body(in, own, FEARS, 1, d);
+                case 50: return body(in, above, TELLS, x, d) - body(in, own, HEARS, 2, d);
+                case 60: return body(in, above, FEARS, x, d) ^ in.n;
+                case 61: return body(in, own, SAYS, x, d) - body(in, above, TELLS, x, d);
+                case 70: return body(in, above, SAYS, x + 1, d);
                 default: return 0;
             }
         }
