@@ -11,6 +11,7 @@ final class FieldsTest {
         echoesTheFieldAhead();
         tellsOfTellings();
         tellsOfOwners();
+        tellsOfTenFields();
         becomes();
         isOfKinds();
         sets();
@@ -185,6 +186,20 @@ final class FieldsTest {
             Checks.same("ofOwner(" + wild + ", 0)", x.ofOwner(wild, 0), Checks.BEYOND);
             Checks.same("ofOwner(0, " + wild + ")", x.ofOwner(0, wild), Checks.BEYOND);
         }
+    }
+
+    private static void tellsOfTenFields() {
+        FieldsTold x = new FieldsTold();
+        for (int i = 0; i < 10; i++) {
+            x.field(0, 10 + i);
+            Checks.tell(x, 0, i, 3);
+        }
+        Checks.same("fields of owner 0", x.ofOwner(0, 1), 10);
+        Checks.same("their acres", x.ofOwner(0, 2), 145);
+        Checks.same("their rents", x.ofOwner(0, 3), 145);
+        Checks.same("a rent to owner 0", x.ofField(9, 8), 19);
+        Checks.same("tellings by all", x.count(5), 30);
+        Checks.same("nobody's", x.count(3), 0);
     }
 
     private static void becomes() {

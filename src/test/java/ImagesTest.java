@@ -36,8 +36,10 @@ final class ImagesTest {
         String kept = all(x);
         changeAll(x);
         Checks.isTrue("all is changed", !kept.equals(all(x)));
+        Checks.same("lost", x.count(2), 2);
         Checks.same("restore", x.restore(), 9);
         Checks.isTrue("all is as it was", kept.equals(all(x)));
+        Checks.same("lost", x.count(2), 1);
         Checks.same("the tape's bytes", x.text(0), 1);
         Checks.same("the tape's text", x.law(0, 6, 0, 0), 11);
         Checks.same("the numbers that wait", x.check(), 0);
@@ -59,6 +61,7 @@ final class ImagesTest {
         x.set(0, 1, 3);
         x.set(1, 1, 3);
         x.forgets(0);
+        Checks.tell(x, 3, 1, 1);
         Checks.tell(x, 0, 1, 2);
         x.fear(2, 1);
         x.pace(3);

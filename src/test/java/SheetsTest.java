@@ -190,6 +190,9 @@ final class SheetsTest {
         Checks.same("the first that isn't so", x.judge(1), 1);
         row(x, 1, 32, -1, 2);
         Checks.same("one lacks", x.judge(1), 2);
+        Checks.tell(x, 0, 2, 3);
+        Checks.same("owner 0's lacks, too", x.judge(1), 2);
+        x.forgets(2);
         row(x, 1, 32, -1, 2, -1, -1);
         Checks.same("one is too many", x.judge(1), 3);
         Checks.tell(x, 0, 0, 1);

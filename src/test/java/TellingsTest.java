@@ -7,6 +7,7 @@ final class TellingsTest {
         tellsThreeTimes();
         losesTitles();
         losesEchoesToo();
+        losesNoMoreThanItCounts();
         tellsTheDeaf();
         refusesATenth();
         refusesBehindTheLastMinute();
@@ -61,6 +62,32 @@ final class TellingsTest {
         Checks.same("a telling to the first", x.tells(1, 0), -1);
         Checks.same("all three are lost", x.count(2), 3);
         Checks.same("all are nobody's", x.count(3), 4);
+    }
+
+    private static void losesNoMoreThanItCounts() {
+        FieldsTold x = new FieldsTold();
+        x.field(0, 10);
+        for (int i = 1; i < 10; i++) {
+            x.field(60, 10);
+        }
+        Checks.same("a text", Checks.read(x, 0, "1"), 1);
+        // By this seed 26 of 100 draws tell field 0, and 25 of them another owner than the one ahead.
+        for (int i = 1; i <= 39; i++) {
+            x.seed(8451251);
+            x.forgets(0);
+            x.loose(100);
+            Checks.same("all ten are lost 25 times more", x.count(2), 250 * i);
+        }
+        x.forgets(0);
+        x.tells(3, 0);
+        for (int i = 0; i < 24; i++) {
+            x.tells(i % 4, 0);
+        }
+        Checks.same("lost", x.count(2), 9990);
+        x.tells(1, 0);
+        Checks.same("lost at most", x.count(2), 9999);
+        x.tells(2, 0);
+        Checks.same("lost at most", x.count(2), 9999);
     }
 
     private static void tellsTheDeaf() {

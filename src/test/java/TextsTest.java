@@ -66,6 +66,7 @@ final class TextsTest {
         gives("n%0+1", 1);
         gives("1<2", 1);
         gives("2<1", 0);
+        gives("2<2", 0);
         gives("2=2", 1);
         gives("2=3", 0);
         gives("3>2", 1);
@@ -183,6 +184,9 @@ final class TextsTest {
         Checks.same("a long text", x.law(0, 0, 0, 0), 35);
         Checks.same("a short one behind it", Checks.read(x, 0, "t"), 1);
         Checks.same("a short one behind it", x.law(0, 0, 6, 0), 6);
+        Checks.same("a text that ends in !", Checks.read(x, 0, "!n"), 1);
+        Checks.same("a short one behind it", Checks.read(x, 0, "n"), 1);
+        Checks.same("a short one behind it", x.law(0, 6, 0, 0), 6);
     }
 
     private static void givesByNames() {

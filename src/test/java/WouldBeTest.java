@@ -13,6 +13,8 @@ final class WouldBeTest {
         turns();
         turnsAmongTheFirstFive();
         turnsWithoutATenth();
+        turnsWithoutAWayOut();
+        thinksOfTenFields();
         ones();
         fears();
         silences();
@@ -105,7 +107,10 @@ final class WouldBeTest {
         FieldsTold x = new FieldsTold();
         Checks.same("gain without fields", x.gain(3, 0), 0);
         Checks.same("its set", x.gain(3, 1), 0);
-        x.field(0, 10);
+        x.field(0, 1);
+        Checks.same("gain of an acre", x.gain(3, 0), 1);
+        Checks.same("its set", x.gain(3, 1), 1);
+        x.set(0, 0, 10);
         x.field(0, 20);
         x.field(13, 90);
         x.pace(2);
@@ -214,6 +219,32 @@ final class WouldBeTest {
         Checks.tell(x, 1, 0, 5);
         Checks.same("its ninth is the last", x.turns(1, 0, 3), 40);
         Checks.same("minutes", x.count(1), 17);
+    }
+
+    // Every owner has to tell, even if that costs a title.
+    private static void turnsWithoutAWayOut() {
+        FieldsTold x = new FieldsTold();
+        x.field(0, 40);
+        Checks.same("a text", Checks.read(x, 0, "t<3"), 1);
+        Checks.tell(x, 0, 0, 2);
+        Checks.same("as it is", x.turns(0, 1, 0), 40);
+        Checks.same("by a third telling", x.turns(0, 1, 1), 0);
+    }
+
+    private static void thinksOfTenFields() {
+        FieldsTold x = new FieldsTold();
+        for (int i = 0; i < 10; i++) {
+            x.field(8, 10 + i);
+            Checks.tell(x, 0, i, 3);
+        }
+        Checks.same("as they are", x.turns(0, 1, 0), 145);
+        Checks.same("the least of the first five", x.turns(1, 0, 1), -145 + 14);
+        Checks.same("8 of 16, ten times", x.odds(0, 0), 1);
+        Checks.same("8 of 16, ten times", x.odds(0, 1), 1024);
+        Checks.same("the last one's silence", x.silence(9, 0), 19);
+        Checks.same("coach", x.coach(9), 40);
+        Checks.same("needed", x.needed(0, 9), 0);
+        Checks.same("gain", x.gain(0, 0), 145);
     }
 
     private static void row(FieldsTold x, int sheet, int bits, int... numbers) {
