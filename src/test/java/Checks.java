@@ -55,6 +55,34 @@ final class Checks {
         }
     }
 
+    static void row(FieldsTold x, int sheet, int bits, int... numbers) {
+        x.sheet(sheet, bits, numbers.length);
+        for (int i = 0; i < numbers.length; i++) {
+            x.put(sheet, i, numbers[i]);
+        }
+    }
+
+    /** All that answers can show but sheets, the trace and errors told. */
+    static String all(FieldsTold x) {
+        StringBuilder told = new StringBuilder();
+        for (int i = 0; i < x.count(0); i++) {
+            for (int what = 0; what < 10; what++) {
+                told.append(x.ofField(i, what)).append(' ');
+            }
+            for (int owner = 0; owner < 4; owner++) {
+                told.append(x.tellings(i, owner)).append(' ');
+            }
+        }
+        for (int what = 0; what < 10; what++) {
+            told.append(x.count(what)).append(' ');
+        }
+        for (int owner = 0; owner < 4; owner++) {
+            told.append(x.ofOwner(owner, 0)).append(' ');
+        }
+        told.append(x.law(0, 1, 20, 30)).append(' ').append(x.law(1, 1, 20, 30));
+        return told.toString();
+    }
+
     static void end(String name) {
         System.out.println(name + ": " + right + " right, " + wrong + " wrong");
         if (wrong != 0) {

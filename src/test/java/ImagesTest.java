@@ -33,19 +33,19 @@ final class ImagesTest {
         x.tell(1);
         x.tell(0);
         Checks.same("image", x.image(), 1);
-        String kept = all(x);
+        String kept = Checks.all(x);
         changeAll(x);
-        Checks.isTrue("all is changed", !kept.equals(all(x)));
+        Checks.isTrue("all is changed", !kept.equals(Checks.all(x)));
         Checks.same("lost", x.count(2), 2);
         Checks.same("restore", x.restore(), 9);
-        Checks.isTrue("all is as it was", kept.equals(all(x)));
+        Checks.isTrue("all is as it was", kept.equals(Checks.all(x)));
         Checks.same("lost", x.count(2), 1);
         Checks.same("the tape's bytes", x.text(0), 1);
         Checks.same("the tape's text", x.law(0, 6, 0, 0), 11);
         Checks.same("the numbers that wait", x.check(), 0);
         changeAll(x);
         Checks.same("the image stays", x.restore(), 9);
-        Checks.isTrue("all is as it was", kept.equals(all(x)));
+        Checks.isTrue("all is as it was", kept.equals(Checks.all(x)));
         Checks.same("the numbers that wait", x.check(), 0);
         Checks.same("a new field is new", x.field(0, 1), 2);
         Checks.same("a new field is new", x.ofField(2, 9), 0);
@@ -72,26 +72,6 @@ final class ImagesTest {
         Checks.feed(x, "t*t*t");
         x.check();
         x.tell(7);
-    }
-
-    private static String all(FieldsTold x) {
-        StringBuilder told = new StringBuilder();
-        for (int i = 0; i < x.count(0); i++) {
-            for (int what = 0; what < 10; what++) {
-                told.append(x.ofField(i, what)).append(' ');
-            }
-            for (int owner = 0; owner < 4; owner++) {
-                told.append(x.tellings(i, owner)).append(' ');
-            }
-        }
-        for (int what = 0; what < 10; what++) {
-            told.append(x.count(what)).append(' ');
-        }
-        for (int owner = 0; owner < 4; owner++) {
-            told.append(x.ofOwner(owner, 0)).append(' ');
-        }
-        told.append(x.law(0, 1, 20, 30)).append(' ').append(x.law(1, 1, 20, 30));
-        return told.toString();
     }
 
     private static void keepsNoSheets() {
@@ -219,7 +199,7 @@ final class ImagesTest {
         x.image();
         x.tell(4);
         Checks.feed(x, "n+");
-        String before = all(x);
+        String before = Checks.all(x);
         for (int wild : Checks.WILD) {
             x.field(wild, 1);
             x.ofField(wild, 0);
@@ -249,6 +229,6 @@ final class ImagesTest {
             x.count(wild);
             x.told(wild);
         }
-        Checks.isTrue("errors change nothing", before.equals(all(x)));
+        Checks.isTrue("errors change nothing", before.equals(Checks.all(x)));
     }
 }

@@ -74,13 +74,6 @@ final class SheetsTest {
         Checks.same("no such ahead of missing", x.put(5, -1, 0), Checks.BEYOND);
     }
 
-    private static void row(FieldsTold x, int sheet, int bits, int... numbers) {
-        x.sheet(sheet, bits, numbers.length);
-        for (int i = 0; i < numbers.length; i++) {
-            x.put(sheet, i, numbers[i]);
-        }
-    }
-
     private static void holds(FieldsTold x, int sheet, int... numbers) {
         Checks.same("acres of sheet " + sheet, x.acres(sheet), numbers.length);
         for (int i = 0; i < numbers.length; i++) {
@@ -98,8 +91,8 @@ final class SheetsTest {
 
     private static void moves() {
         FieldsTold x = fiveFields();
-        row(x, 0, 16, 11, 12, 13, 14, 15);
-        row(x, 1, 16, 21, 22, 23);
+        Checks.row(x, 0, 16, 11, 12, 13, 14, 15);
+        Checks.row(x, 1, 16, 21, 22, 23);
         Checks.same("move", x.move(0, 3, 1, 0, 2), 2);
         holds(x, 1, 14, 15, 23);
         holds(x, 0, 11, 12, 13, 14, 15);
@@ -112,10 +105,10 @@ final class SheetsTest {
 
     private static void movesOntoItself() {
         FieldsTold x = fiveFields();
-        row(x, 2, 8, 1, 2, 3, 4, 5);
+        Checks.row(x, 2, 8, 1, 2, 3, 4, 5);
         Checks.same("move up", x.move(2, 0, 2, 1, 4), 4);
         holds(x, 2, 1, 1, 2, 3, 4);
-        row(x, 2, 8, 1, 2, 3, 4, 5);
+        Checks.row(x, 2, 8, 1, 2, 3, 4, 5);
         Checks.same("move down", x.move(2, 2, 2, 0, 3), 3);
         holds(x, 2, 3, 4, 5, 4, 5);
         Checks.same("move in place", x.move(2, 0, 2, 0, 5), 5);
@@ -124,9 +117,9 @@ final class SheetsTest {
 
     private static void refusesMoves() {
         FieldsTold x = new FieldsTold();
-        row(x, 0, 8, 1, 2, 3);
-        row(x, 1, 16, 1, 2, 3);
-        row(x, 2, 8, 1, 2);
+        Checks.row(x, 0, 8, 1, 2, 3);
+        Checks.row(x, 1, 16, 1, 2, 3);
+        Checks.row(x, 2, 8, 1, 2);
         int most = Integer.MAX_VALUE;
         for (int wild : new int[] {-1, 4, Integer.MIN_VALUE, most}) {
             Checks.same("no such sheet", x.move(wild, 0, 3, 0, 1), Checks.BEYOND);
@@ -153,15 +146,15 @@ final class SheetsTest {
             Checks.same("acres(" + wild + ")", x.acres(wild), Checks.BEYOND);
         }
         Checks.same("of a missing one", x.acres(0), Checks.NONE);
-        row(x, 0, 32, 1, 99, 100, 50);
+        Checks.row(x, 0, 32, 1, 99, 100, 50);
         Checks.same("up to the first beyond", x.acres(0), 2);
         Checks.same("acres", x.ofField(1, 2), 99);
         Checks.same("behind it none", x.ofField(3, 2), 1);
-        row(x, 0, 32, 0, 50);
+        Checks.row(x, 0, 32, 0, 50);
         Checks.same("none", x.acres(0), 0);
-        row(x, 0, 32, 5, -1, 5);
+        Checks.row(x, 0, 32, 5, -1, 5);
         Checks.same("one", x.acres(0), 1);
-        row(x, 0, 32, 7, 7, 7, 7, 7, 7, 7);
+        Checks.row(x, 0, 32, 7, 7, 7, 7, 7, 7, 7);
         Checks.same("as many as fields", x.acres(0), 5);
         Checks.same("a sheet of none", x.sheet(0, 8, 0), 1);
         Checks.same("none", x.acres(0), 0);
@@ -182,21 +175,21 @@ final class SheetsTest {
         x.field(0, 1);
         x.field(0, 1);
         Checks.tell(x, 2, 1, 3);
-        row(x, 1, 8, -1, 2, -1);
+        Checks.row(x, 1, 8, -1, 2, -1);
         Checks.same("all", x.judge(1), -1);
-        row(x, 1, 16, -1, 2, 0);
+        Checks.row(x, 1, 16, -1, 2, 0);
         Checks.same("the last isn't so", x.judge(1), 2);
-        row(x, 1, 16, -1, 1, 0);
+        Checks.row(x, 1, 16, -1, 1, 0);
         Checks.same("the first that isn't so", x.judge(1), 1);
-        row(x, 1, 32, -1, 2);
+        Checks.row(x, 1, 32, -1, 2);
         Checks.same("one lacks", x.judge(1), 2);
         Checks.tell(x, 0, 2, 3);
         Checks.same("owner 0's lacks, too", x.judge(1), 2);
         x.forgets(2);
-        row(x, 1, 32, -1, 2, -1, -1);
+        Checks.row(x, 1, 32, -1, 2, -1, -1);
         Checks.same("one is too many", x.judge(1), 3);
         Checks.tell(x, 0, 0, 1);
-        row(x, 1, 32, -1, 2, -1);
+        Checks.row(x, 1, 32, -1, 2, -1);
         Checks.same("whose they are, not who is said", x.judge(1), -1);
     }
 }

@@ -247,13 +247,6 @@ final class WouldBeTest {
         Checks.same("gain", x.gain(0, 0), 145);
     }
 
-    private static void row(FieldsTold x, int sheet, int bits, int... numbers) {
-        x.sheet(sheet, bits, numbers.length);
-        for (int i = 0; i < numbers.length; i++) {
-            x.put(sheet, i, numbers[i]);
-        }
-    }
-
     private static void ones() {
         FieldsTold x = new FieldsTold();
         Checks.same("a missing sheet", x.one(0, 0), Checks.NONE);
@@ -267,24 +260,24 @@ final class WouldBeTest {
         x.field(0, 1);
         x.field(13, 1);
         x.field(60, 1);
-        row(x, 0, 8, -1, 3, 3);
+        Checks.row(x, 0, 8, -1, 3, 3);
         Checks.same("to the deaf and the even echo", x.one(0, 1), 8);
         Checks.same("the least", x.one(0, 0), 1);
-        row(x, 1, 16, 2, 3, 3);
+        Checks.row(x, 1, 16, 2, 3, 3);
         Checks.same("one alone", x.one(1, 1), 1);
         Checks.same("the least", x.one(1, 0), 20);
-        row(x, 2, 32, 2, 3);
+        Checks.row(x, 2, 32, 2, 3);
         Checks.same("of all fields just", x.one(2, 0), Checks.NONE);
-        row(x, 2, 32, 2, 3, 3, -1);
+        Checks.row(x, 2, 32, 2, 3, 3, -1);
         Checks.same("of all fields just", x.one(2, 1), Checks.NONE);
-        row(x, 2, 32, 2, 2, 2);
+        Checks.row(x, 2, 32, 2, 2, 2);
         Checks.same("by none", x.one(2, 0), Checks.NONE);
         Checks.same("by none", x.one(2, 1), Checks.NONE);
-        row(x, 2, 32, 258, 3, 3);
+        Checks.row(x, 2, 32, 258, 3, 3);
         Checks.same("wide numbers are wide", x.one(2, 1), Checks.NONE);
         Checks.tell(x, 0, 0, 9);
         Checks.tell(x, 2, 0, 1);
-        row(x, 0, 8, 0, 3, 3);
+        Checks.row(x, 0, 8, 0, 3, 3);
         Checks.same("a tenth telling changes nothing", x.one(0, 0), Checks.NONE);
         Checks.same("a tenth telling is one, too", x.one(1, 0), 0);
         Checks.same("how many", x.one(1, 1), 10);
@@ -310,15 +303,15 @@ final class WouldBeTest {
         }
         Checks.tell(x, 2, 1, 1);
         Checks.tell(x, 3, 1, 1);
-        row(x, 0, 8, 0, 2, -1);
+        Checks.row(x, 0, 8, 0, 2, -1);
         Checks.same("owner 0 is feared most, 2 above 3", x.fears(0, 1), 3);
         Checks.same("the first", x.fears(0, 0), 3021);
-        row(x, 0, 8, 2, 3, -1);
+        Checks.row(x, 0, 8, 2, 3, -1);
         Checks.same("by none", x.fears(0, 0), Checks.NONE);
         Checks.same("by none", x.fears(0, 1), Checks.NONE);
-        row(x, 0, 8, 0, 2);
+        Checks.row(x, 0, 8, 0, 2);
         Checks.same("of all fields just", x.fears(0, 1), Checks.NONE);
-        row(x, 0, 8, 3, 3, -1);
+        Checks.row(x, 0, 8, 3, 3, -1);
         Checks.same("as at first", x.fears(0, 0), 123);
         Checks.same("six ways", x.fears(0, 1), 6);
         x.fear(0, 9);
@@ -387,25 +380,6 @@ final class WouldBeTest {
         Checks.same("told(1)", x.told(1), 9);
     }
 
-    private static String all(FieldsTold x) {
-        StringBuilder told = new StringBuilder();
-        for (int i = 0; i < x.count(0); i++) {
-            for (int what = 0; what < 10; what++) {
-                told.append(x.ofField(i, what)).append(' ');
-            }
-            for (int owner = 0; owner < 4; owner++) {
-                told.append(x.tellings(i, owner)).append(' ');
-            }
-        }
-        for (int what = 0; what < 10; what++) {
-            told.append(x.count(what)).append(' ');
-        }
-        for (int owner = 0; owner < 4; owner++) {
-            told.append(x.ofOwner(owner, 0)).append(' ');
-        }
-        return told.toString();
-    }
-
     private static void changesNothing() {
         FieldsTold x = new FieldsTold();
         for (int i = 0; i < 7; i++) {
@@ -417,7 +391,7 @@ final class WouldBeTest {
         for (int i = 0; i < 7; i++) {
             x.put(0, i, x.ofField(i, 6));
         }
-        String before = all(x);
+        String before = Checks.all(x);
         x.gain(1, 0);
         x.turns(2, 3, 4);
         x.one(0, 0);
@@ -427,6 +401,6 @@ final class WouldBeTest {
         for (int i = 0; i < 7; i++) {
             x.needed(i % 4, i);
         }
-        Checks.isTrue("what would be changes nothing", before.equals(all(x)));
+        Checks.isTrue("what would be changes nothing", before.equals(Checks.all(x)));
     }
 }
