@@ -160,6 +160,9 @@ final class EdgesOfFieldsTest {
         Checks.same("P3 nobody has the title", Checks.read(x, 0, "0"), 1);
         Checks.same("P3 a rent's text", Checks.read(x, 1, "999"), 1);
         Checks.same("P3 nobody's rent", x.ofField(0, 8), 0);
+        x.become(0, 10);
+        Checks.same("P3 all have the title", Checks.read(x, 0, "1"), 1);
+        Checks.same("P3 owner 0 isn't nobody", x.ofField(0, 8), 999);
     }
 
     /** Promise 3: "9 TELLINGS by all": 0 to 36. */

@@ -247,16 +247,16 @@ final class EdgesOfRestTest {
 
     /** Promise 33: "All ..": FIELDS, FEARS, PACE, TEXTS, THE TAPE, what waits, z, MINUTE, LOST. */
     private static void p34RestoreAll() {
-        FieldsTold x = Edges.tenFields();
-        Checks.tell(x, 1, 9, 3);
-        x.tells(2, 9);
+        FieldsTold x = Edges.road(0, 5);
+        Checks.tell(x, 1, 4, 3);
+        x.tells(2, 4);
         Checks.feed(x, "n+1");
         x.tell(-1);
         x.image();
         String due = Checks.all(x);
-        x.set(9, 0, 5);
-        x.set(9, 1, 5);
-        x.become(9, 44);
+        x.set(4, 0, 5);
+        x.set(4, 1, 5);
+        x.become(4, 43);
         x.tells(3, 0);
         x.fear(0, 7);
         x.pace(20);
@@ -265,8 +265,12 @@ final class EdgesOfRestTest {
         Checks.same("P34 another title", Checks.read(x, 0, "1"), 1);
         Checks.feed(x, "9999");
         x.check();
-        x.tells(2, 8);
-        x.forgets(9);
+        x.tell(7);
+        x.forgets(4);
+        x.become(4, 3);
+        x.tells(1, 4);
+        x.tells(2, 4);
+        Checks.same("P34 LOST since", x.count(2), 2);
         for (int again = 0; again < 2; again++) {
             Checks.same("P34 MINUTE", x.restore(), 4);
             Checks.isTrue("P34 all is as in the image", due.equals(Checks.all(x)));

@@ -436,6 +436,7 @@ final class EdgesOfSheetsTest {
     /** Promise 32: "(one that lacks, or is too many, too)". */
     private static void p32JudgeOneThatLacksOrIsTooMany() {
         judges(3, 2, -1, 0);
+        judges(2, 2, -1);
         judges(1, 2);
         judges(0);
         judges(4, 2, -1, 0, -1, -1);

@@ -437,6 +437,9 @@ final class EdgesOfTextsTest {
         Checks.same("P15 the other use's", Checks.read(x, 1, "m"), 1);
         Checks.same("P15 what it gives", x.law(1, 1, 2, 3), 3);
         Checks.same("P15 the first use's stays", x.law(0, 1, 2, 3), 7);
+        Checks.same("P15 one that ends by !", Checks.read(x, 0, "!n"), 1);
+        Checks.same("P15 one without, in its place", Checks.read(x, 0, "n"), 1);
+        Checks.same("P15 what it gives", x.law(0, 8, 2, 3), 8);
     }
 
     /** Terms, TEXTS: "(bytes, at most 50)": a TEXT of all 50. */

@@ -202,7 +202,14 @@ final class EdgesOfThoughtTest {
             Edges.allowed("P19 no fields", Edges::bare, x -> x.gain(0, w), 0);
             Edges.allowed("P19 none can be had", () -> Edges.road(11, 10), x -> x.gain(1, w), 0);
             Edges.allowed("P19 none in time", () -> atPace(2, 0), x -> x.gain(1, w), 0);
+            Edges.allowed("P19 one acre is more than none", () -> ofOneAcre(), x -> x.gain(1, w), 1);
         }
+    }
+
+    private static FieldsTold ofOneAcre() {
+        FieldsTold x = new FieldsTold();
+        x.field(0, 1);
+        return x;
     }
 
     /** One field, where 3 TELLINGS are NEEDED. */
