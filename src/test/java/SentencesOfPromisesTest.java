@@ -1,4 +1,4 @@
-/** Promises 1 to 38: each remark quotes sentences as a whole, each test is by hand. */
+/** Promises 1 to 38: each remark quotes sentences as a whole, its values worked out without the class. */
 final class SentencesOfPromisesTest {
     private SentencesOfPromisesTest() {
     }

@@ -1,4 +1,4 @@
-/** The document from its first line to Terms, 2: each remark quotes sentences as a whole, each test is by hand. */
+/** The document from its first line to Terms, 2: each remark quotes sentences as a whole, its values worked out without the class. */
 final class SentencesOfTermsTest {
     private SentencesOfTermsTest() {
     }

@@ -1,4 +1,4 @@
-/** Terms, 3 and 4: each remark quotes sentences as a whole, each test is by hand. */
+/** Terms, 3 and 4: each remark quotes sentences as a whole, its values worked out without the class. */
 final class SentencesOfThoughtTest {
     private SentencesOfThoughtTest() {
     }
