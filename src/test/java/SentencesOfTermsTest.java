@@ -1,4 +1,7 @@
-/** The document from its first line to Terms, 2: each remark quotes sentences as a whole, its values worked out without the class. */
+/**
+ * The document from its first line to Terms, 2: each remark quotes sentences as a whole, its values worked out without
+ * the class.
+ */
 final class SentencesOfTermsTest {
     private SentencesOfTermsTest() {
     }
